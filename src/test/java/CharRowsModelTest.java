@@ -1,0 +1,307 @@
+import java.nio.charset.StandardCharsets;
+import java.util.ArrayList;
+import java.util.Arrays;
+import java.util.BitSet;
+import java.util.HashMap;
+import java.util.List;
+import java.util.Map;
+import java.util.Random;
+import java.util.TreeSet;
+
+/**
+ * Long runs of calls against a model that follows the document's words one character at a time. The
+ * seed is fixed, so each run is the same every time.
+ */
+public final class CharRowsModelTest {
+    private static final int LAST = 1114111;
+    private static final int RUNS = 60;
+    private static final Map<Integer, TreeSet<Integer>> ALIKE = alike();
+    private static int wrong = 0;
+
+    private final Random random;
+    private final String name;
+    private final CharRows x = new CharRows();
+    private BitSet set = new BitSet();
+    private BitSet kept = new BitSet();
+
+    private CharRowsModelTest(int run) {
+        random = new Random(run);
+        name = "run " + run;
+    }
+
+    public static void main(String[] args) {
+        for (int run = 0; run < RUNS && wrong < 20; run++) {
+            new CharRowsModelTest(run).play();
+        }
+        new CharRowsModelTest(RUNS).crowd();
+        System.out.println(wrong == 0 ? "all as the model" : wrong + " answers are not the model's");
+        if (wrong != 0) {
+            System.exit(1);
+        }
+    }
+
+    /** As many ranges as 512 calls can make, or nearly: every second letter, then as many others. */
+    private void crowd() {
+        int calls = 0;
+        for (int c = 97; c < 1120; c += 2) {
+            if (ALIKE.containsKey(c) && ALIKE.get(c).first() != c) {
+                addRange(c, c);
+                calls++;
+            }
+        }
+        for (int c = 3000; calls < 507; c += 100) {
+            addRange(c, c);
+            calls++;
+        }
+        fold();
+        x.keep();
+        kept = (BitSet) set.clone();
+        turn();
+        compareRanges();
+        compareRows();
+        turn();
+        set.or(kept);
+        due("join", x.join(), rangesOf(set).size());
+        compareRanges();
+    }
+
+    private void play() {
+        int calls = 20 + random.nextInt(200);
+        for (int c = 0; c < calls && wrong < 20; c++) {
+            change();
+            ask();
+            if (random.nextInt(60) == 0) {
+                compareRows();
+            }
+        }
+        compareRanges();
+        compareRows();
+    }
+
+    private void change() {
+        switch (random.nextInt(16)) {
+            case 0:
+                turn();
+                break;
+            case 1:
+                fold();
+                break;
+            case 2:
+                x.keep();
+                kept = (BitSet) set.clone();
+                break;
+            case 3:
+                set.or(kept);
+                due("join", x.join(), rangesOf(set).size());
+                break;
+            case 4:
+                if (random.nextInt(4) == 0) {
+                    x.clear();
+                    set = new BitSet();
+                }
+                break;
+            default:
+                add();
+        }
+    }
+
+    private void add() {
+        int low = somewhere();
+        addRange(low, random.nextInt(6) == 0 ? somewhere() : low + random.nextInt(40));
+    }
+
+    private void addRange(int low, int high) {
+        boolean refused = low < 0 || high < low || high > LAST;
+        try {
+            int got = x.add(low, high);
+            due("add refused " + low + ", " + high, 0, refused ? 1 : 0);
+            for (int c = low; c <= high; c++) {
+                if (isCharacter(c)) {
+                    set.set(c);
+                }
+            }
+            due("add " + low + ", " + high, got, rangesOf(set).size());
+        } catch (IllegalArgumentException e) {
+            due("add refused " + low + ", " + high, 1, refused ? 1 : 0);
+        }
+    }
+
+    private void fold() {
+        BitSet folded = (BitSet) set.clone();
+        for (Map.Entry<Integer, TreeSet<Integer>> one : ALIKE.entrySet()) {
+            if (set.get(one.getKey())) {
+                for (int other : one.getValue()) {
+                    folded.set(other);
+                }
+            }
+        }
+        set = folded;
+        due("fold", x.fold(), rangesOf(set).size());
+    }
+
+    private void turn() {
+        set.flip(0, LAST + 1);
+        set.clear(55296, 57344);
+        due("turn", x.turn(), rangesOf(set).size());
+    }
+
+    private void ask() {
+        int c = somewhere();
+        due("has " + c, x.has(c) ? 1 : 0, c >= 0 && set.get(c) ? 1 : 0);
+        due("ranges", x.ranges(), rangesOf(set).size());
+        if (c >= 0 && c <= LAST && isCharacter(c)) {
+            byte[] bytes = utf8(c);
+            int packed = random.nextInt();
+            for (int i = 0; i < bytes.length; i++) {
+                int shift = 24 - 8 * i;
+                packed = packed & ~(255 << shift) | (bytes[i] & 255) << shift;
+            }
+            askTakes(packed, bytes.length);
+            askTakes(packed ^ 1 << random.nextInt(32), bytes.length);
+            askTakes(packed, random.nextInt(7) - 1);
+        }
+    }
+
+    private void askTakes(int bytes, int n) {
+        boolean want = false;
+        if (n >= 1 && n <= 4) {
+            byte[] first = new byte[n];
+            for (int i = 0; i < n; i++) {
+                first[i] = (byte) (bytes >> 24 - 8 * i);
+            }
+            String text = new String(first, StandardCharsets.UTF_8);
+            want = text.codePointCount(0, text.length()) == 1
+                && Arrays.equals(text.getBytes(StandardCharsets.UTF_8), first)
+                && set.get(text.codePointAt(0));
+        }
+        due("takes " + Integer.toHexString(bytes) + ", " + n, x.takes(bytes, n) ? 1 : 0,
+            want ? 1 : 0);
+    }
+
+    private void compareRanges() {
+        List<int[]> want = rangesOf(set);
+        due("ranges", x.ranges(), want.size());
+        for (int k = 0; k < want.size(); k++) {
+            due("range " + k + ", 0", x.range(k, 0), want.get(k)[0]);
+            due("range " + k + ", 1", x.range(k, 1), want.get(k)[1]);
+        }
+    }
+
+    private void compareRows() {
+        int k = 0;
+        for (int[] range : rangesOf(set)) {
+            for (int first = range[0]; first <= range[1]; k++) {
+                int last = lastOfRow(first, range[1]);
+                byte[] low = utf8(first);
+                byte[] high = utf8(last);
+                due("row " + k, x.row(k, 0, 0), low.length);
+                for (int i = 1; i <= low.length; i++) {
+                    due("row " + k + ", " + i + ", 0", x.row(k, i, 0), low[i - 1] & 255);
+                    due("row " + k + ", " + i + ", 1", x.row(k, i, 1), high[i - 1] & 255);
+                }
+                first = last + 1;
+            }
+        }
+        due("rows", x.rows(), k);
+        due("row behind", x.row(k, 0, 0), -1);
+    }
+
+    /** A row takes just the run's bytes if it takes as many as the run has characters. */
+    private static int lastOfRow(int first, int end) {
+        byte[] start = utf8(first);
+        int[] low = new int[4];
+        int[] high = new int[4];
+        for (int i = 0; i < start.length; i++) {
+            low[i] = start[i] & 255;
+            high[i] = start[i] & 255;
+        }
+        int longest = first;
+        for (int c = first; c <= end; c++) {
+            byte[] bytes = utf8(c);
+            if (bytes.length != start.length) {
+                break;
+            }
+            long taken = 1;
+            for (int i = 0; i < bytes.length; i++) {
+                low[i] = Math.min(low[i], bytes[i] & 255);
+                high[i] = Math.max(high[i], bytes[i] & 255);
+                taken *= high[i] - low[i] + 1;
+            }
+            if (taken == c - first + 1) {
+                longest = c;
+            }
+        }
+        return longest;
+    }
+
+    private static List<int[]> rangesOf(BitSet set) {
+        List<int[]> ranges = new ArrayList<>();
+        int low = set.nextSetBit(0);
+        while (low >= 0) {
+            int behind = set.nextClearBit(low);
+            ranges.add(new int[] {low, behind - 1});
+            low = set.nextSetBit(behind);
+        }
+        return ranges;
+    }
+
+    private int somewhere() {
+        int[] edges = {0, 65, 97, 127, 181, 192, 224, 247, 383, 913, 945, 962, 1024, 1072, 1104,
+            2047, 4096, 8490, 55295, 57344, 65535, 262144, 1048576, LAST};
+        switch (random.nextInt(4)) {
+            case 0:
+                return random.nextInt(LAST + 1);
+            case 1:
+                return random.nextInt(1200);
+            case 2:
+                return 64 * random.nextInt(1500) + random.nextInt(3) - 1;
+            default:
+                return edges[random.nextInt(edges.length)] + random.nextInt(9) - 4;
+        }
+    }
+
+    private static boolean isCharacter(int c) {
+        return c < 55296 || c > 57343;
+    }
+
+    private static byte[] utf8(int c) {
+        return new String(Character.toChars(c)).getBytes(StandardCharsets.UTF_8);
+    }
+
+    private static Map<Integer, TreeSet<Integer>> alike() {
+        Map<Integer, TreeSet<Integer>> all = new HashMap<>();
+        for (int c = 0; c < 1200; c++) {
+            boolean less32 = c >= 'a' && c <= 'z' || c >= 224 && c <= 254 && c != 247
+                || c >= 945 && c <= 969 || c >= 1072 && c <= 1103;
+            if (less32) {
+                tie(all, c, c - 32);
+            }
+            if (c >= 1104 && c <= 1119) {
+                tie(all, c, c - 80);
+            }
+        }
+        tie(all, 962, 963);
+        tie(all, 962, 931);
+        tie(all, 107, 8490);
+        tie(all, 115, 383);
+        tie(all, 229, 8491);
+        tie(all, 181, 956);
+        return all;
+    }
+
+    private static void tie(Map<Integer, TreeSet<Integer>> all, int one, int other) {
+        TreeSet<Integer> both = new TreeSet<>(List.of(one, other));
+        both.addAll(all.getOrDefault(one, new TreeSet<>()));
+        both.addAll(all.getOrDefault(other, new TreeSet<>()));
+        for (int c : both) {
+            all.put(c, both);
+        }
+    }
+
+    private void due(String what, long got, long want) {
+        if (got != want) {
+            wrong++;
+            System.out.println(name + ": " + what + " answered " + got + ", due is " + want);
+        }
+    }
+}
