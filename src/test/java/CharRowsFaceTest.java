@@ -9,8 +9,6 @@ import java.util.TreeSet;
 
 /** The class has the document's face and nothing else that others could see. */
 public final class CharRowsFaceTest {
-    private static int wrong = 0;
-
     public static void main(String[] args) {
         Set<String> due = new TreeSet<>(Arrays.asList(
             "public static final int CharRows.NONE",
@@ -27,21 +25,11 @@ public final class CharRowsFaceTest {
             "public int CharRows.rows()",
             "public int CharRows.row(int,int,int)",
             "public boolean CharRows.takes(int,int)"));
-        Set<String> seen = visible();
-        if (!seen.equals(due)) {
-            wrong++;
-            System.out.println("the face is " + seen + ", due is " + due);
-        }
-        int modifiers = CharRows.class.getModifiers();
-        if (!Modifier.isPublic(modifiers) || !Modifier.isFinal(modifiers)) {
-            wrong++;
-            System.out.println("the class is not public and final");
-        }
+        Due.same("the face", visible(), due);
+        Due.same("the class", Modifier.toString(CharRows.class.getModifiers()), "public final");
+        Due.answer("NONE", CharRows.NONE, -1);
         noHiddenNamesake();
-        System.out.println(wrong == 0 ? "the face is as due" : "the face is wrong");
-        if (wrong != 0) {
-            System.exit(1);
-        }
+        Due.end();
     }
 
     private static Set<String> visible() {
@@ -70,10 +58,8 @@ public final class CharRowsFaceTest {
             names.add(m.getName());
         }
         for (Method m : CharRows.class.getDeclaredMethods()) {
-            if (Modifier.isPrivate(m.getModifiers()) && names.contains(m.getName())) {
-                wrong++;
-                System.out.println("a private method bears the name " + m.getName());
-            }
+            boolean namesake = Modifier.isPrivate(m.getModifiers()) && names.contains(m.getName());
+            Due.answer("a private method bears the name " + m.getName(), namesake, false);
         }
     }
 }

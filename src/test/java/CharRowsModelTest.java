@@ -7,20 +7,24 @@ import java.util.List;
 import java.util.Map;
 import java.util.Random;
 import java.util.TreeSet;
+import java.util.function.ToIntFunction;
 
 /**
  * Long runs of calls against a model that follows the document's words one character at a time. The
- * seed is fixed, so each run is the same every time.
+ * seed is fixed, so each run is the same every time. As nothing is promised behind an object's
+ * 512th call, further questions go to a new object on which all changes are made again.
  */
 public final class CharRowsModelTest {
-    private static final int LAST = 1114111;
+    private static final int LAST = Due.LAST;
     private static final int RUNS = 60;
+    private static final int MOST_CALLS = 512;
     private static final Map<Integer, TreeSet<Integer>> ALIKE = alike();
-    private static int wrong = 0;
 
     private final Random random;
     private final String name;
-    private final CharRows x = new CharRows();
+    private final List<ToIntFunction<CharRows>> changes = new ArrayList<>();
+    private CharRows x = new CharRows();
+    private int calls = 0;
     private BitSet set = new BitSet();
     private BitSet kept = new BitSet();
 
@@ -30,45 +34,56 @@ public final class CharRowsModelTest {
     }
 
     public static void main(String[] args) {
-        for (int run = 0; run < RUNS && wrong < 20; run++) {
+        for (int run = 0; run < RUNS && Due.countOfWrong() < 20; run++) {
             new CharRowsModelTest(run).play();
         }
         new CharRowsModelTest(RUNS).crowd();
-        System.out.println(wrong == 0 ? "all as the model" : wrong + " answers are not the model's");
-        if (wrong != 0) {
-            System.exit(1);
-        }
+        Due.end();
     }
 
-    /** As many ranges as 512 calls can make, or nearly: every second letter, then as many others. */
+    private int change(ToIntFunction<CharRows> call) {
+        int got = call.applyAsInt(asked());
+        changes.add(call);
+        return got;
+    }
+
+    /** The object for the next call; there must be fewer changes than an object has calls. */
+    private CharRows asked() {
+        if (calls == MOST_CALLS) {
+            x = new CharRows();
+            for (ToIntFunction<CharRows> call : changes) {
+                call.applyAsInt(x);
+            }
+            calls = changes.size();
+        }
+        calls++;
+        return x;
+    }
+
+    /** As many ranges as 512 calls can make, or nearly: every second letter, then many others. */
     private void crowd() {
-        int calls = 0;
         for (int c = 97; c < 1120; c += 2) {
             if (ALIKE.containsKey(c) && ALIKE.get(c).first() != c) {
                 addRange(c, c);
-                calls++;
             }
         }
-        for (int c = 3000; calls < 507; c += 100) {
+        for (int c = 3000; changes.size() < MOST_CALLS - 10; c += 100) {
             addRange(c, c);
-            calls++;
         }
         fold();
-        x.keep();
-        kept = (BitSet) set.clone();
+        keep();
         turn();
         compareRanges();
         compareRows();
         turn();
-        set.or(kept);
-        due("join", x.join(), rangesOf(set).size());
+        join();
         compareRanges();
     }
 
     private void play() {
-        int calls = 20 + random.nextInt(200);
-        for (int c = 0; c < calls && wrong < 20; c++) {
-            change();
+        int steps = 20 + random.nextInt(200);
+        for (int s = 0; s < steps && Due.countOfWrong() < 20; s++) {
+            step();
             ask();
             if (random.nextInt(60) == 0) {
                 compareRows();
@@ -78,7 +93,7 @@ public final class CharRowsModelTest {
         compareRows();
     }
 
-    private void change() {
+    private void step() {
         switch (random.nextInt(16)) {
             case 0:
                 turn();
@@ -87,17 +102,14 @@ public final class CharRowsModelTest {
                 fold();
                 break;
             case 2:
-                x.keep();
-                kept = (BitSet) set.clone();
+                keep();
                 break;
             case 3:
-                set.or(kept);
-                due("join", x.join(), rangesOf(set).size());
+                join();
                 break;
             case 4:
                 if (random.nextInt(4) == 0) {
-                    x.clear();
-                    set = new BitSet();
+                    clear();
                 }
                 break;
             default:
@@ -113,7 +125,7 @@ public final class CharRowsModelTest {
     private void addRange(int low, int high) {
         boolean refused = low < 0 || high < low || high > LAST;
         try {
-            int got = x.add(low, high);
+            int got = change(o -> o.add(low, high));
             due("add refused " + low + ", " + high, 0, refused ? 1 : 0);
             for (int c = low; c <= high; c++) {
                 if (isCharacter(c)) {
@@ -136,19 +148,40 @@ public final class CharRowsModelTest {
             }
         }
         set = folded;
-        due("fold", x.fold(), rangesOf(set).size());
+        due("fold", change(CharRows::fold), rangesOf(set).size());
     }
 
     private void turn() {
         set.flip(0, LAST + 1);
         set.clear(55296, 57344);
-        due("turn", x.turn(), rangesOf(set).size());
+        due("turn", change(CharRows::turn), rangesOf(set).size());
+    }
+
+    private void keep() {
+        change(o -> {
+            o.keep();
+            return 0;
+        });
+        kept = (BitSet) set.clone();
+    }
+
+    private void join() {
+        set.or(kept);
+        due("join", change(CharRows::join), rangesOf(set).size());
+    }
+
+    private void clear() {
+        change(o -> {
+            o.clear();
+            return 0;
+        });
+        set = new BitSet();
     }
 
     private void ask() {
         int c = somewhere();
-        due("has " + c, x.has(c) ? 1 : 0, c >= 0 && set.get(c) ? 1 : 0);
-        due("ranges", x.ranges(), rangesOf(set).size());
+        due("has " + c, asked().has(c) ? 1 : 0, c >= 0 && set.get(c) ? 1 : 0);
+        due("ranges", asked().ranges(), rangesOf(set).size());
         if (c >= 0 && c <= LAST && isCharacter(c)) {
             byte[] bytes = utf8(c);
             int packed = random.nextInt();
@@ -174,16 +207,16 @@ public final class CharRowsModelTest {
                 && Arrays.equals(text.getBytes(StandardCharsets.UTF_8), first)
                 && set.get(text.codePointAt(0));
         }
-        due("takes " + Integer.toHexString(bytes) + ", " + n, x.takes(bytes, n) ? 1 : 0,
+        due("takes " + Integer.toHexString(bytes) + ", " + n, asked().takes(bytes, n) ? 1 : 0,
             want ? 1 : 0);
     }
 
     private void compareRanges() {
         List<int[]> want = rangesOf(set);
-        due("ranges", x.ranges(), want.size());
+        due("ranges", asked().ranges(), want.size());
         for (int k = 0; k < want.size(); k++) {
-            due("range " + k + ", 0", x.range(k, 0), want.get(k)[0]);
-            due("range " + k + ", 1", x.range(k, 1), want.get(k)[1]);
+            due("range " + k + ", 0", asked().range(k, 0), want.get(k)[0]);
+            due("range " + k + ", 1", asked().range(k, 1), want.get(k)[1]);
         }
     }
 
@@ -194,16 +227,16 @@ public final class CharRowsModelTest {
                 int last = lastOfRow(first, range[1]);
                 byte[] low = utf8(first);
                 byte[] high = utf8(last);
-                due("row " + k, x.row(k, 0, 0), low.length);
+                due("row " + k, asked().row(k, 0, 0), low.length);
                 for (int i = 1; i <= low.length; i++) {
-                    due("row " + k + ", " + i + ", 0", x.row(k, i, 0), low[i - 1] & 255);
-                    due("row " + k + ", " + i + ", 1", x.row(k, i, 1), high[i - 1] & 255);
+                    due("row " + k + ", " + i + ", 0", asked().row(k, i, 0), low[i - 1] & 255);
+                    due("row " + k + ", " + i + ", 1", asked().row(k, i, 1), high[i - 1] & 255);
                 }
                 first = last + 1;
             }
         }
-        due("rows", x.rows(), k);
-        due("row behind", x.row(k, 0, 0), -1);
+        due("rows", asked().rows(), k);
+        due("row behind", asked().row(k, 0, 0), -1);
     }
 
     /** A row takes just the run's bytes if it takes as many as the run has characters. */
@@ -299,9 +332,6 @@ public final class CharRowsModelTest {
     }
 
     private void due(String what, long got, long want) {
-        if (got != want) {
-            wrong++;
-            System.out.println(name + ": " + what + " answered " + got + ", due is " + want);
-        }
+        Due.answer(name + ": " + what, got, want);
     }
 }
