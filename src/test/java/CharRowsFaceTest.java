@@ -29,6 +29,7 @@ public final class CharRowsFaceTest {
         Due.same("the class", Modifier.toString(CharRows.class.getModifiers()), "public final");
         Due.answer("NONE", CharRows.NONE, -1);
         noHiddenNamesake();
+        classesInside();
         Due.end();
     }
 
@@ -60,6 +61,15 @@ public final class CharRowsFaceTest {
         for (Method m : CharRows.class.getDeclaredMethods()) {
             boolean namesake = Modifier.isPrivate(m.getModifiers()) && names.contains(m.getName());
             Due.answer("a private method bears the name " + m.getName(), namesake, false);
+        }
+    }
+
+    private static void classesInside() {
+        for (Class<?> inside : CharRows.class.getDeclaredClasses()) {
+            int modifiers = inside.getModifiers();
+            boolean seen = Modifier.isPublic(modifiers) || Modifier.isProtected(modifiers);
+            Due.answer(inside.getName() + " can be seen", seen, false);
+            Due.answer(inside.getName() + " is static", Modifier.isStatic(modifiers), true);
         }
     }
 }

@@ -29,6 +29,7 @@ public final class CharRowsPromisesTest {
         takesRefuses();
         manyRanges();
         callsBeyondTheLast();
+        callsOfTheReadme();
         Due.end();
     }
 
@@ -543,5 +544,25 @@ public final class CharRowsPromisesTest {
         x.takes(0x61000000, 1);
         x.add(0, LAST);
         x.range(0, 1);
+    }
+
+    /** README.md tells these answers. */
+    private static void callsOfTheReadme() {
+        CharRows x = new CharRows();
+        Due.answer("README: add of a .. f", x.add('a', 'f'), 1);
+        Due.answer("README: fold", x.fold(), 2);
+        Due.answer("README: range(0, 0)", x.range(0, 0), 65);
+        Due.answer("README: range(0, 1)", x.range(0, 1), 70);
+        Due.answer("README: range(2, 0)", x.range(2, 0), CharRows.NONE);
+        x.keep();
+        x.clear();
+        Due.answer("README: add of the euro sign", x.add(0x20AC, 0x20AC), 1);
+        Due.answer("README: rows", x.rows(), 1);
+        Due.answer("README: row(0, 0, 0)", x.row(0, 0, 0), 3);
+        Due.answer("README: row(0, 1, 0)", x.row(0, 1, 0), 0xE2);
+        Due.answer("README: takes", x.takes(0xE282AC00, 3), true);
+        Due.answer("README: join", x.join(), 3);
+        Due.answer("README: turn", x.turn(), 5);
+        Due.answer("README: has", x.has('a'), false);
     }
 }
